@@ -24,6 +24,8 @@ public final class MadeTextsTest {
         DUE.text("a to 0", x, 2, "b\0n\0n\0");
         DUE.is("0 to 127", x.replaceSign(2, 0, 127, 2), 6);
         DUE.text("0 to 127", x, 2, "b\u007fn\u007fn\u007f");
+        DUE.is("b to a at the beginning", x.replaceSign(0, 'b', 'a', 1), 6);
+        DUE.text("b to a at the beginning", x, 1, "aanana");
         DUE.is("z to y", x.replaceSign(0, 'z', 'y', 1), 6);
         DUE.text("z to y", x, 1, "banana");
         DUE.is("a to a", x.replaceSign(0, 'a', 'a', 8), 6);
@@ -139,6 +141,9 @@ public final class MadeTextsTest {
         DUE.is("101 times", x.repeat(0, 101, 1), TextShelves.FULL);
         DUE.is("MAX times", x.repeat(0, MAX, 1), TextShelves.FULL);
         DUE.is("1431655766 times, which would wrap to 2", x.repeat(0, 1431655766, 1), TextShelves.FULL);
+        x.feed(4, Due.packed("abcdefg"), 7);
+        before = x.digest();
+        DUE.is("43 times 7, which is 301", x.repeat(4, 43, 1), TextShelves.FULL);
         DUE.is("a full one twice", x.repeat(3, 2, 1), TextShelves.FULL);
         DUE.is("-1 times", x.repeat(0, -1, 1), TextShelves.BAD);
         DUE.is("MIN times", x.repeat(0, MIN, 1), TextShelves.BAD);

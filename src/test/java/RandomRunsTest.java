@@ -210,7 +210,7 @@ public final class RandomRunsTest {
             case 32: is(x.starts(s, o), text.startsWith(other), "starts", s, o); break;
             case 33: is(x.startsAt(s, o, place), text.startsWith(other, place), "startsAt", s, o, place); break;
             case 34: is(x.ends(s, o), text.endsWith(other), "ends", s, o); break;
-            case 35: case 36: regions(s, o); break;
+            case 35: case 36: regions(s, o, kind == 35); break;
             case 37: is(x.same(s, o), text.equals(other), "same", s, o); break;
             case 38: is(x.alike(s, o), text.equalsIgnoreCase(other), "alike", s, o); break;
             case 39: is(x.compare(s, o), text.compareTo(other), "compare", s, o); break;
@@ -219,14 +219,16 @@ public final class RandomRunsTest {
         }
     }
 
-    private void regions(int s, int o) {
+    private void regions(int s, int o, boolean caseTold) {
         int place = place(s);
         int otherPlace = place(o);
         int n = any(12) == 0 ? FAR[any(FAR.length)] : any(8) - 2;
-        is(x.region(s, place, o, otherPlace, n),
-            model.at(s).regionMatches(place, model.at(o), otherPlace, n), "region", s, place, o, otherPlace, n);
-        is(x.regionAlike(s, place, o, otherPlace, n),
-            model.at(s).regionMatches(true, place, model.at(o), otherPlace, n), "regionAlike", s, place, o, otherPlace, n);
+        boolean want = model.at(s).regionMatches(!caseTold, place, model.at(o), otherPlace, n);
+        if (caseTold) {
+            is(x.region(s, place, o, otherPlace, n), want, "region", s, place, o, otherPlace, n);
+        } else {
+            is(x.regionAlike(s, place, o, otherPlace, n), want, "regionAlike", s, place, o, otherPlace, n);
+        }
     }
 
     private void together(int kind) {

@@ -159,7 +159,10 @@ public final class ShelvesTest {
         DUE.is("concat up to 300", x.concat(0, 3, 3), 300);
         DUE.text("concat up to 300", x, 3, "abc" + FULL_TEXT.substring(3));
         x.type(0, 'd');
+        x.tail(3, 3, 3);
+        before = x.digest();
         DUE.is("concat up to 301", x.concat(0, 3, 3), TextShelves.FULL);
+        DUE.is("refused concat() up to 301", x.digest(), before);
     }
 
     private static void substring() {
