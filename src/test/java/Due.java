@@ -1,8 +1,11 @@
 /** Counts the answers of one test that are due and those that are not, and ends it so. */
 final class Due {
     private final String test;
+    private String name = "";
     private int passed;
     private int failed;
+    private int asked;
+    private int named;
 
     Due(String test) {
         this.test = test;
@@ -33,13 +36,39 @@ final class Due {
         return all;
     }
 
+    /** A row of letters that no shift makes alike, so that a place that is off by any number shows. */
+    static String letters(int n) {
+        StringBuilder text = new StringBuilder();
+        int seed = 1;
+        for (int i = 0; i < n; i++) {
+            seed = seed * 1103515245 + 12345;
+            text.append((char) ('a' + (seed >>> 16) % 26));
+        }
+        return text.toString();
+    }
+
+    /** From here on up to close() the answers are those of the test of this name. */
+    void begin(String name) {
+        this.name = "." + name;
+        asked = passed + failed;
+    }
+
+    /** A test that asks nothing holds nothing. */
+    void close() {
+        if (passed + failed == asked) {
+            is("how many answers are looked at", 0, 1);
+        }
+        name = "";
+        named++;
+    }
+
     void is(String call, long got, long want) {
         if (got == want) {
             passed++;
             return;
         }
         failed++;
-        System.out.println(test + ": " + call + " answered " + got + ", due is " + want);
+        System.out.println(test + name + ": " + call + " answered " + got + ", due is " + want);
     }
 
     void yes(String call, boolean got) {
@@ -64,7 +93,8 @@ final class Due {
     }
 
     void end() {
-        System.out.println(test + ": " + passed + " passed, " + failed + " failed");
+        String tests = named > 0 ? named + " tests by name, answers: " : "";
+        System.out.println(test + ": " + tests + passed + " passed, " + failed + " failed");
         if (!allPassed()) {
             System.exit(1);
         }
