@@ -318,6 +318,15 @@ public final class EdgesOfAllTest {
         due.is("digest() with a sign on shelf 7, too", x.digest(), foldAll("\0", "", "", "", "", "", "", "\u007f"));
     }
 
+    @Says(promise = 51, value = "and then for each piece, by numbers")
+    static void digestGoesThroughThePiecesByNumbers(Due due) {
+        TextShelves x = Due.with("ab,,c,def,");
+        x.part(0, ',', -1);
+        x.wipe(0);
+        due.is("digest() with five pieces", x.digest(),
+            foldAll("", "", "", "", "", "", "", "", "ab", "", "c", "def", ""));
+    }
+
     @Says(promise = 51, value = "as a long that wraps")
     static void digestOfEightFullTexts(Due due) {
         TextShelves x = fullShelves();

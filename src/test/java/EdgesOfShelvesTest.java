@@ -202,8 +202,9 @@ public final class EdgesOfShelvesTest {
     static void feedFillsATextUpTo300(Due due) {
         for (int n = 1; n <= 8; n++) {
             TextShelves x = Due.with(LONG_TEXT.substring(0, 300 - n));
+            String want = LONG_TEXT.substring(0, 300 - n) + "12345678".substring(0, n);
             due.is("feed() of " + n + " up to 300", x.feed(0, Due.packed("12345678"), n), 300);
-            due.text("feed() of " + n + " up to 300", x, 0, LONG_TEXT.substring(0, 300 - n) + "12345678".substring(0, n));
+            due.text("feed() of " + n + " up to 300", x, 0, want);
         }
     }
 
@@ -486,6 +487,15 @@ public final class EdgesOfShelvesTest {
         }
     }
 
+    @Says(promise = 10, value = "Lays the digits of a number")
+    static void numberLeavesNothingOfTheOneBefore(Due due) {
+        TextShelves x = new TextShelves();
+        for (int value : new int[] {MIN, 0, MAX, -1, 10, 9}) {
+            due.is("number(" + value + ", 0)", x.number(value, 0), Integer.toString(value).length());
+            due.text("number(" + value + ", 0)", x, 0, Integer.toString(value));
+        }
+    }
+
     @Says(promise = 11, value = "Lays the digits of a number")
     static void bigOfTheGreatestLong(Due due) {
         laysBig(due, Long.MAX_VALUE);
@@ -512,6 +522,15 @@ public final class EdgesOfShelvesTest {
                 laysBig(due, value);
                 laysBig(due, -value);
             }
+        }
+    }
+
+    @Says(promise = 11, value = "Lays the digits of a number")
+    static void bigLeavesNothingOfTheOneBefore(Due due) {
+        TextShelves x = new TextShelves();
+        for (long value : new long[] {Long.MIN_VALUE, 0, Long.MAX_VALUE, -1, 10, 9}) {
+            due.is("big(" + value + ", 0)", x.big(value, 0), Long.toString(value).length());
+            due.text("big(" + value + ", 0)", x, 0, Long.toString(value));
         }
     }
 

@@ -422,6 +422,62 @@ public final class EdgesOfTermsTest {
 
     // ---- refusals and asks
 
+    @Says(promise = 0, value = "UNFIT, a number is not as told")
+    static void aNumberThatIsNotAsToldIsUnfit(Due due) {
+        Twins twins = new Twins(due, "abc", "");
+        for (int number : new int[] {MIN, -1, 128, MAX}) {
+            twins.refuse("type(0, " + number + ")", TextShelves.UNFIT, x -> x.type(0, number));
+            twins.refuse("feed(0, 0, " + number + ")", TextShelves.UNFIT, x -> x.feed(0, 0, number));
+            twins.refuse("replaceSign(0, " + number + ", ..)", TextShelves.UNFIT,
+                x -> x.replaceSign(0, number, 'a', 0));
+            twins.refuse("replaceSign(0, .., " + number + ", 0)", TextShelves.UNFIT,
+                x -> x.replaceSign(0, 'a', number, 0));
+            twins.refuse("part(0, " + number + ", 0)", TextShelves.UNFIT, x -> x.part(0, number, 0));
+            twins.refuse("join(" + number + ", 0)", TextShelves.UNFIT, x -> x.join(number, 0));
+        }
+        twins.refuse("replaceText(0, 1, 0, 0)", TextShelves.UNFIT, x -> x.replaceText(0, 1, 0, 0));
+        twins.refuse("count(0, 1)", TextShelves.UNFIT, x -> x.count(0, 1));
+    }
+
+    private static boolean libraryRefuses(Runnable call) {
+        try {
+            call.run();
+            return false;
+        } catch (IndexOutOfBoundsException | IllegalArgumentException refused) {
+            return true;
+        }
+    }
+
+    @Says(promise = 0, value = "BEYOND, a place is one that the library would refuse")
+    static void aPlaceThatTheLibraryRefusesIsBeyond(Due due) {
+        for (String text : new String[] {"", "a", "abc", Due.letters(300)}) {
+            for (int from : startsAround(text.length())) {
+                String told = "(0, " + from + ") of " + text.length() + " signs";
+                boolean noSign = libraryRefuses(() -> text.charAt(from));
+                due.is("charAt" + told, Due.with(text).charAt(0, from) == TextShelves.BEYOND ? 1 : 0, noSign ? 1 : 0);
+                boolean noTail = libraryRefuses(() -> text.substring(from));
+                due.is("tail" + told, Due.with(text).tail(0, from, 1) == TextShelves.BEYOND ? 1 : 0, noTail ? 1 : 0);
+                for (int until : startsAround(text.length())) {
+                    boolean none = libraryRefuses(() -> text.substring(from, until));
+                    int got = Due.with(text).substring(0, from, until, 1);
+                    due.is("substring" + told + " until " + until, got == TextShelves.BEYOND ? 1 : 0, none ? 1 : 0);
+                }
+            }
+        }
+    }
+
+    @Says(promise = 0, value = "BAD, a number is one that it would refuse")
+    static void aNumberThatTheLibraryRefusesIsBad(Due due) {
+        for (String text : new String[] {"", "a", "abc"}) {
+            for (int times : new int[] {MIN, MIN + 1, -300, -2, -1, 0, 1, 2}) {
+                boolean bad = libraryRefuses(() -> text.repeat(times));
+                int got = Due.with(text).repeat(0, times, 1);
+                due.is("repeat(0, " + times + ", 1) of " + text.length() + " signs",
+                    got == TextShelves.BAD ? 1 : 0, bad ? 1 : 0);
+            }
+        }
+    }
+
     @Says(promise = 0, value = "FULL, a text would have more than 300 signs")
     static void noCallLeavesMoreThan300Signs(Due due) {
         Twins full = new Twins(due, Due.letters(300), "a", "bb");

@@ -41,7 +41,8 @@ public final class EdgesOfTwoTextsTest {
         due.no("startsAt(2, 1, 4)", x.startsAt(2, 1, 4));
     }
 
-    @Says(promise = 21, value = "Returns the place; NONE; an empty text stands at each place, and behind the last sign.")
+    @Says(promise = 21, value = "Returns the place; NONE; an empty text stands at each place, and behind the last"
+        + " sign.")
     static void findInAnEmptyText(Due due) {
         TextShelves x = Due.with("", "a", "");
         due.is("find() of one sign in none", x.find(0, 1), NONE);
